@@ -10,6 +10,7 @@ public final class ReferenceTest {
     private final int run;
     private int calls = 0;
     private int drawn = 0;
+    private int prepared = 0;
     private long state;
 
     private ReferenceTest(int run) {
@@ -25,9 +26,11 @@ public final class ReferenceTest {
     }
 
     private void compareRun() {
-        for (int procedures = next(4); procedures > 0; procedures--) {
+        int procedures = next(4);
+        for (int i = 0; i < procedures; i++) {
             drawUpProcedure();
         }
+        prepared = procedures;
         while (calls < CALLS - READS_OF_ALL) {
             change();
             if (next(3) == 0) {
@@ -62,17 +65,22 @@ public final class ReferenceTest {
     private void change() {
         switch (next(24)) {
             case 0 -> draw(account(), share());
-            case 1, 2 -> add(procedure(), account(), share());
-            case 3 -> certify(next(4) == 0 ? user() : next(2), procedure());
-            case 4, 5 -> grant(next(4) == 0 ? user() : next(2), user(), procedure(), next(3) > 0);
+            case 1 -> add(procedure(), account(), share());
+            case 2 -> certify(next(4) == 0 ? user() : next(2), procedure());
+            case 3, 4, 5 -> grant(next(4) == 0 ? user() : next(2), user(), procedure(), next(4) > 0);
             case 6 -> floor(next(4) == 0 ? user() : next(2), account(), floor());
             case 7 -> tamper(account(), by());
             case 8, 9, 10 -> restore(next(4) == 0 ? user() : next(2));
-            case 11, 12, 13, 14 -> approve(user(), request());
+            case 11, 12, 13, 14 -> approve(runner(procedure()), request());
             case 15 -> withdraw(user(), request());
-            case 16, 17 -> reverse(user(), entry());
-            default -> ask(user(), procedure(), amount());
+            case 16, 17 -> reverse(runner(procedure()), entry());
+            default -> askForRun();
         }
+    }
+
+    private void askForRun() {
+        int procedure = procedure();
+        ask(runner(procedure), procedure, amount());
     }
 
     private void read() {
@@ -223,7 +231,22 @@ public final class ReferenceTest {
         return next(30) == 0 ? extreme() : next(8);
     }
 
+    /** Most often a user who may run the procedure. */
+    private int runner(int procedure) {
+        int first = next(8);
+        for (int i = 0; i < 8 && next(8) > 0; i++) {
+            int user = (first + i) % 8;
+            if (reference.mayRun(user, procedure)) {
+                return user;
+            }
+        }
+        return user();
+    }
+
     private int procedure() {
+        if (prepared > 0 && next(3) > 0) {
+            return next(prepared);
+        }
         return next(30) == 0 ? extreme() : next(drawn + (next(8) == 0 ? 1 : 0));
     }
 
@@ -256,11 +279,11 @@ public final class ReferenceTest {
     }
 
     private long floor() {
-        int account = next(8);
+        long near = reference.balance(next(8));
         return switch (next(6)) {
             case 0 -> new long[] {-Books.LIMIT - 1, Books.LIMIT + 1, Long.MIN_VALUE, Books.LIMIT}[next(4)];
-            case 1 -> reference.balance(account) + next(3) - 1;
-            case 2 -> reference.balance(account) - next(20000);
+            case 1 -> near + next(3) - 1;
+            case 2 -> near - next(20000);
             default -> -Books.LIMIT;
         };
     }
