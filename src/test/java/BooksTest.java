@@ -8,6 +8,8 @@ public final class BooksTest {
         sound();
         soundWithReversals();
         restore();
+        restoreNewBooks();
+        restoreBelowFloor();
         restoreRefuses();
         balance();
         balanceAt();
@@ -114,6 +116,28 @@ public final class BooksTest {
         Check.answers("13: sound", true, books::sound);
         Check.answers("13: the log stays", 4, books::entries);
         Check.answers("13: runs go on", 4, () -> books.ask(2, 0, 1));
+    }
+
+    private static void restoreNewBooks() {
+        CertifiedBooks books = new CertifiedBooks();
+        Check.answers("13: a new object", 0, () -> books.restore(0));
+        books.tamper(7, 1000000);
+        Check.answers("13: one was", 1, () -> books.restore(1));
+        Check.answers("13: as new", 0, () -> books.balance(7));
+        Check.answers("15: no entries", 0, () -> books.balanceAt(7, 0));
+        Check.refuses("15: the first of none", Check.UNKNOWN, () -> books.balanceAt(7, 1));
+        Check.refuses("17: the first of none", Check.UNKNOWN, () -> books.entry(0, 0));
+    }
+
+    /** Floors hold procedures up, nothing else. */
+    private static void restoreBelowFloor() {
+        CertifiedBooks books = Books.withTransferRun(1);
+        books.tamper(1, 20000);
+        books.floor(0, 1, 5000);
+        Check.answers("13: one was", 1, () -> books.restore(0));
+        Check.answers("13: below the floor", -10000, () -> books.balance(1));
+        books.floor(0, 1, 0);
+        Check.answers("13: the floor stays", 0, () -> books.floor(0, 1, 0));
     }
 
     private static void restoreRefuses() {

@@ -10,6 +10,8 @@ public final class ProceduresTest {
         certify();
         certifyRefuses();
         certifyRefusesNoOfficer();
+        certifyTwoToFourLines();
+        lastProcedure();
         grant();
         grantRefuses();
         mayRun();
@@ -159,6 +161,39 @@ public final class ProceduresTest {
         books.add(0, 1, -60);
         Check.refuses("4: no officer, procedure in order", Check.UNSUPPORTED, () -> books.certify(2, 0));
         Check.happens("4: still not certified", () -> books.certify(0, 0));
+    }
+
+    private static void certifyTwoToFourLines() {
+        CertifiedBooks books = new CertifiedBooks();
+        for (int lines = 1; lines <= 4; lines++) {
+            int procedure = books.draw(0, 100);
+            for (int line = 1; line < lines - 1; line++) {
+                books.add(procedure, line, -1);
+            }
+            if (lines == 1) {
+                Check.refuses("4: one line", Check.STATE, () -> books.certify(0, procedure));
+                continue;
+            }
+            int last = 2 - lines;
+            Check.answers("4: lines", lines, () -> books.add(procedure, 7, -100 - last));
+            Check.happens("4: certifies " + lines + " lines", () -> books.certify(0, procedure));
+        }
+    }
+
+    private static void lastProcedure() {
+        CertifiedBooks books = new CertifiedBooks();
+        for (int i = 0; i < 10; i++) {
+            books.draw(0, 100);
+        }
+        Check.answers("3: the last procedure", 2, () -> books.add(9, 7, -100));
+        Check.happens("4: the last procedure", () -> books.certify(1, 9));
+        Check.refuses("4: the one before has one line", Check.STATE, () -> books.certify(1, 8));
+        Check.answers("5: the last procedure", true, () -> books.grant(1, 7, 9, true));
+        Check.answers("20: the last procedure", true, () -> books.mayRun(7, 9));
+        Check.answers("20: not the one before", false, () -> books.mayRun(7, 8));
+        Check.answers("7: the last procedure", 0, () -> books.ask(7, 9, 30));
+        Check.answers("17: the last procedure", 9, () -> books.entry(0, 0));
+        Check.answers("14: the last account", -30, () -> books.balance(7));
     }
 
     private static void grant() {

@@ -7,12 +7,14 @@ public final class RequestsTest {
         approveTestsInOrder();
         approveNeedsBothToRun();
         approveFails();
+        approveAboveLimit();
         approveInUnsoundBooks();
         approveFullLog();
         withdraw();
         withdrawByOthers();
         withdrawRefuses();
         withdrawInAnyState();
+        lastRequest();
         requested();
         requestedRefuses();
         Check.end();
@@ -115,6 +117,19 @@ public final class RequestsTest {
         Check.answers("8: down to the floor", 0, () -> books.approve(3, 0));
     }
 
+    private static void approveAboveLimit() {
+        CertifiedBooks books = Books.withTransfer();
+        Books.bringMost(books, 9);
+        books.ask(2, 0, 1);
+        books.ask(2, 0, Books.MOST);
+        Check.refuses("8: one above", Check.STATE, () -> books.approve(3, 0));
+        Check.answers("8: still a request", 2, () -> books.requested(0));
+        books.reverse(3, 9);
+        Check.answers("8: up to the limit", 11, () -> books.approve(3, 0));
+        Check.answers("8: the most a balance may be", Books.LIMIT, () -> books.balance(0));
+        Check.answers("8: the least a balance may be", -Books.LIMIT, () -> books.balance(1));
+    }
+
     private static void approveInUnsoundBooks() {
         CertifiedBooks books = Books.withTransfer();
         books.ask(2, 0, 20000);
@@ -198,6 +213,21 @@ public final class RequestsTest {
         books.tamper(0, 1);
         Check.happens("9: not sound, a full log", () -> books.withdraw(3, 1));
         Check.happens("9: not sound, who asked", () -> books.withdraw(2, 0));
+    }
+
+    private static void lastRequest() {
+        CertifiedBooks books = Books.withTransfer();
+        for (int i = 0; i < 6; i++) {
+            books.ask(2, 0, 20000 + i);
+        }
+        Check.answers("8: the last request", 0, () -> books.approve(3, 5));
+        Check.answers("8: its amount", 20005, () -> books.amount(0));
+        Check.refuses("8: not in use any more", Check.UNKNOWN, () -> books.approve(3, 5));
+        Check.answers("7: the last is free", 105, () -> books.ask(4, 0, 30000));
+        Check.answers("19: the last request", 4, () -> books.requested(5));
+        Check.happens("9: the last request", () -> books.withdraw(4, 5));
+        Check.answers("19: withdrawn", CertifiedBooks.NONE, () -> books.requested(5));
+        Check.answers("19: the one before stays", 2, () -> books.requested(4));
     }
 
     private static void requested() {

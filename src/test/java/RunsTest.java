@@ -16,12 +16,14 @@ public final class RunsTest {
         askAboveLimit();
         askBelowLimit();
         askTakesBackLines();
+        askFirstAndLastUser();
         reverse();
         reverseNegatesRounded();
         reverseLargeAmount();
         reverseRefuses();
         reverseTwice();
         reverseFails();
+        reverseAboveLimit();
         reverseInUnsoundBooks();
         reverseFullLog();
         Check.end();
@@ -242,6 +244,30 @@ public final class RunsTest {
         }
     }
 
+    private static void askFirstAndLastUser() {
+        CertifiedBooks books = new CertifiedBooks();
+        books.draw(0, 100);
+        books.add(0, 7, -100);
+        books.certify(1, 0);
+        books.grant(1, 0, 0, true);
+        books.grant(1, 7, 0, true);
+        Check.answers("7: the last user", 0, () -> books.ask(7, 0, 5));
+        Check.answers("10: the first user", 1, () -> books.reverse(0, 0));
+        Check.answers("7: the first user", 2, () -> books.ask(0, 0, 6));
+        Check.answers("10: the last user", 3, () -> books.reverse(7, 2));
+        books.ask(0, 0, 10001);
+        books.ask(7, 0, 10001);
+        Check.answers("8: the last user", 4, () -> books.approve(7, 0));
+        Check.answers("8: the first user", 5, () -> books.approve(0, 1));
+        Check.answers("17: the first user asked", 0, () -> books.entry(4, 1));
+        Check.answers("17: the first user approved", 0, () -> books.entry(5, 2));
+        books.ask(0, 0, 10001);
+        books.ask(7, 0, 10001);
+        Check.answers("19: the first user", 0, () -> books.requested(0));
+        Check.happens("9: the last user", () -> books.withdraw(7, 0));
+        Check.happens("9: the first user", () -> books.withdraw(0, 1));
+    }
+
     private static void reverse() {
         CertifiedBooks books = Books.withTransferRun(2);
         Check.answers("10: the reversal", 2, () -> books.reverse(3, 0));
@@ -333,6 +359,22 @@ public final class RunsTest {
         books.floor(0, 3, 60);
         Check.refuses("10: a line below its floor", Check.STATE, () -> books.reverse(3, 2));
         Check.answers("10: nothing of it posted", 50, () -> books.balance(2));
+    }
+
+    private static void reverseAboveLimit() {
+        CertifiedBooks books = new CertifiedBooks();
+        Books.addProcedure(books, 0, 100, 1, -50, 4, -50);
+        Books.addProcedure(books, 2, 50, 3, 50, 0, -100);
+        books.ask(2, 1, 2);
+        Books.bringMost(books, 10);
+        Check.answers("10: two below", Books.LIMIT - 2, () -> books.balance(0));
+        books.ask(2, 0, 1);
+        Check.refuses("10: one above", Check.STATE, () -> books.reverse(3, 0));
+        Check.answers("10: not reversed", CertifiedBooks.NONE, () -> books.entry(0, 4));
+        Check.answers("10: the lines before are taken back", 1, () -> books.balance(2));
+        books.reverse(3, 11);
+        Check.answers("10: up to the limit", 13, () -> books.reverse(3, 0));
+        Check.answers("10: the most a balance may be", Books.LIMIT, () -> books.balance(0));
     }
 
     private static void reverseInUnsoundBooks() {
