@@ -7,6 +7,8 @@ public final class RunsTest {
         floorAboveBalance();
         ask();
         askRounds();
+        askRoundsLargeAmount();
+        askLastLineFails();
         askRefuses();
         askTestsInOrder();
         askInUnsoundBooks();
@@ -118,6 +120,37 @@ public final class RunsTest {
         Check.answers("7: 0.99", 197, () -> books.balance(0));
         Check.answers("7: nothing at all", 0, () -> books.balance(3));
         Check.answers("7: an entry all the same", 3, books::entries);
+    }
+
+    private static void askRoundsLargeAmount() {
+        CertifiedBooks books = new CertifiedBooks();
+        Books.addProcedure(books, 0, 33, 1, -67, 2, 34);
+        books.ask(2, 0, Books.MOST - 1);
+        Check.answers("8: the largest amount that is rounded", 0, () -> books.approve(3, 0));
+        Check.answers("8: 32999999999.67", 32999999999L, () -> books.balance(0));
+        Check.answers("8: -66999999999.33", -66999999999L, () -> books.balance(1));
+        Check.answers("8: the last makes the sum 0", 34000000000L, () -> books.balance(2));
+        Check.answers("10: its reversal", 1, () -> books.reverse(4, 0));
+        for (int i = 0; i < 3; i++) {
+            int account = i;
+            Check.answers("10: all taken back", 0, () -> books.balance(account));
+        }
+    }
+
+    /** The last line is held up by what it posts, not by its share of the amount. */
+    private static void askLastLineFails() {
+        CertifiedBooks books = new CertifiedBooks();
+        Books.addProcedure(books, 0, 99, 1, -49, 2, -50);
+        books.floor(0, 2, -99);
+        Check.refuses("7: the last posts -100, its share is -99.5", Check.STATE, () -> books.ask(2, 0, 199));
+        Check.answers("7: those before are taken back", 0, () -> books.balance(0));
+        books.floor(0, 2, -100);
+        Check.answers("7: down to the floor", 0, () -> books.ask(2, 0, 199));
+        books.floor(0, 0, 1);
+        Check.refuses("10: the first posts -197", Check.STATE, () -> books.reverse(3, 0));
+        books.floor(0, 0, 0);
+        Check.answers("10: down to the floor", 1, () -> books.reverse(3, 0));
+        Check.answers("10: the last is taken back whole", 0, () -> books.balance(2));
     }
 
     private static void askRefuses() {
