@@ -2,6 +2,7 @@ import java.io.IOException;
 import java.nio.file.Files;
 import java.nio.file.Path;
 import java.util.List;
+import java.util.Set;
 import java.util.regex.Matcher;
 import java.util.regex.Pattern;
 
@@ -14,6 +15,10 @@ public final class LanguageTest {
             "\\bjava\\.", "\"\\s*\\+", "\\+\\s*\"", "getMessage", "[^\\x00-\\x7f]", "\\bstatic \\{", "Exact\\(",
             "\\bThread\\b", "\\bRandom\\b", "currentTimeMillis", "nanoTime", "getenv", "\\bout\\.print");
 
+    /** The library's names that the program uses; rule 4 lists more. */
+    private static final Set<String> NAMES = Set.of("System", "IndexOutOfBoundsException",
+            "IllegalArgumentException", "IllegalStateException", "UnsupportedOperationException");
+
     public static void main(String[] args) throws IOException {
         String text = Files.readString(Path.of("src/main/java/CertifiedBooks.java"));
         for (String pattern : FORBIDDEN) {
@@ -22,6 +27,7 @@ public final class LanguageTest {
         }
         checkThrown(text);
         checkLibrary(text);
+        checkNames(text);
         checkMethodLengths(text);
         Check.end();
     }
@@ -36,6 +42,15 @@ public final class LanguageTest {
     private static void checkLibrary(String text) {
         Check.compare("calls of System but arraycopy", 0L,
                 count(Pattern.compile("\\bSystem\\."), text) - count(Pattern.compile("\\bSystem\\.arraycopy\\("), text));
+    }
+
+    private static void checkNames(String text) {
+        String code = text.replaceAll("\"[^\"]*\"", "").replaceAll("(?s)/\\*.*?\\*/|//[^\n]*", "");
+        Matcher name = Pattern.compile("\\b[A-Z][A-Z_]*[a-z]\\w*").matcher(code);
+        while (name.find()) {
+            Check.compare(name.group() + " is a class of the language or of the program", true,
+                    NAMES.contains(name.group()) || code.contains("class " + name.group() + " {"));
+        }
     }
 
     private static void checkMethodLengths(String text) {
